@@ -345,13 +345,15 @@ public final class BatchTransfer {
         }
 
         void sealBlock(int mode) {
-            int check = checkOf(mode, length);
-            if (mode != MODE_SUMS) {
-                bytes[length] = (byte) (check >> 8);
+            if (mode == MODE_SUMS) {
+                bytes[length] = (byte) sum(length);
                 length++;
+            } else {
+                int crc = crc(length);
+                bytes[length] = (byte) (crc >> 8);
+                bytes[length + 1] = (byte) crc;
+                length += 2;
             }
-            bytes[length] = (byte) check;
-            length++;
         }
 
         /** How many bytes of data a block with this first byte has; 0 when no block begins so. */
@@ -372,12 +374,10 @@ public final class BatchTransfer {
             if (checkAt == DATA_AT || length != checkAt + checkLength || get(1) + get(2) != 255) {
                 return false;
             }
-            int check = mode == MODE_SUMS ? get(checkAt) : get(checkAt) << 8 | get(checkAt + 1);
-            return check == checkOf(mode, checkAt);
-        }
-
-        private int checkOf(int mode, int dataEnd) {
-            return mode == MODE_SUMS ? sum(dataEnd) : crc(dataEnd);
+            if (mode == MODE_SUMS) {
+                return get(checkAt) == sum(checkAt);
+            }
+            return (get(checkAt) << 8 | get(checkAt + 1)) == crc(checkAt);
         }
 
         private int sum(int dataEnd) {
@@ -393,7 +393,7 @@ public final class BatchTransfer {
         private int crc(int dataEnd) {
             int crc = 0;
             for (int i = DATA_AT; i < dataEnd; i++) {
-                int top = crc >> 8 ^ get(i);
+                int top = crc >> 8 ^ bytes[i] & 255;
                 top ^= top >> 4;
                 crc = (crc << 8 ^ top << 12 ^ top << 5 ^ top) & 0xFFFF;
             }
@@ -455,6 +455,7 @@ public final class BatchTransfer {
         private int current;
         private int number;
         private int offset;
+        private int left;
 
         void prepare(int newMode) {
             startWork(newMode);
@@ -463,61 +464,54 @@ public final class BatchTransfer {
             if (newMode == MODE_BATCH) {
                 unit = Unit.HEAD;
             } else {
-                goToFirstBlock();
+                goIntoFile();
             }
         }
 
         void answer(Wire wire) {
-            if (asked) {
-                answerReply(wire);
-            } else {
-                answerAsk(wire);
-            }
-        }
-
-        private void answerAsk(Wire wire) {
-            if (wire.isByte(askOf(mode))) {
+            if (!asked && wire.isByte(askOf(mode))) {
                 asked = true;
                 putUnit(wire);
-            } else if (bearsMiss(wire)) {
-                wire.putByte(NOT_ASKED_YET);
-            }
-        }
-
-        private void answerReply(Wire wire) {
-            if (wire.isByte(ACK)) {
+            } else if (asked && wire.isByte(ACK)) {
                 misses = 0;
                 goToNextUnit();
                 putUnit(wire);
             } else if (bearsMiss(wire)) {
-                putUnit(wire);
+                if (asked) {
+                    putUnit(wire);
+                } else {
+                    wire.putByte(NOT_ASKED_YET);
+                }
             }
-        }
-
-        private void goToFirstBlock() {
-            number = 1;
-            offset = 0;
-            unit = left() > 0 ? Unit.BLOCK : Unit.END;
         }
 
         private void goToNextUnit() {
-            switch (unit) {
-                case HEAD:
-                    if (files.has(current)) {
-                        goToFirstBlock();
-                    } else {
-                        outcome = DONE;
-                    }
-                    break;
-                case BLOCK:
-                    offset += blockLength();
-                    number++;
-                    unit = left() > 0 ? Unit.BLOCK : Unit.END;
-                    break;
-                default:
-                    goBehindFile();
-                    break;
+            if (unit == Unit.HEAD) {
+                goIntoFile();
+            } else if (unit == Unit.BLOCK) {
+                goBehindBlock();
+            } else {
+                goBehindFile();
             }
+        }
+
+        private void goIntoFile() {
+            if (!files.has(current)) {
+                outcome = DONE;
+                return;
+            }
+            number = 1;
+            offset = files.starts[current];
+            left = files.sizes[current];
+            unit = left > 0 ? Unit.BLOCK : Unit.END;
+        }
+
+        private void goBehindBlock() {
+            int sent = Math.min(blockLength(), left);
+            number++;
+            offset += sent;
+            left -= sent;
+            unit = left > 0 ? Unit.BLOCK : Unit.END;
         }
 
         private void goBehindFile() {
@@ -532,18 +526,12 @@ public final class BatchTransfer {
         private void putUnit(Wire wire) {
             if (outcome == DONE) {
                 wire.empty();
-                return;
-            }
-            switch (unit) {
-                case HEAD:
-                    putHead(wire);
-                    break;
-                case BLOCK:
-                    putBlock(wire);
-                    break;
-                default:
-                    wire.putByte(EOT);
-                    break;
+            } else if (unit == Unit.HEAD) {
+                putHead(wire);
+            } else if (unit == Unit.BLOCK) {
+                putBlock(wire);
+            } else {
+                wire.putByte(EOT);
             }
         }
 
@@ -570,19 +558,12 @@ public final class BatchTransfer {
         private void putBlock(Wire wire) {
             int dataLength = blockLength();
             wire.openBlock(number, dataLength, FILLER);
-            if (files.has(current)) {
-                int from = files.starts[current] + offset;
-                System.arraycopy(files.data, from, wire.bytes, DATA_AT, Math.min(dataLength, left()));
-            }
+            System.arraycopy(files.data, offset, wire.bytes, DATA_AT, Math.min(dataLength, left));
             wire.sealBlock(mode);
         }
 
-        private int left() {
-            return files.has(current) ? files.sizes[current] - offset : 0;
-        }
-
         private int blockLength() {
-            return mode >= MODE_LARGE && left() > LARGE_ABOVE ? LARGE_DATA : SMALL_DATA;
+            return mode >= MODE_LARGE && left > LARGE_ABOVE ? LARGE_DATA : SMALL_DATA;
         }
     }
 
@@ -598,11 +579,11 @@ public final class BatchTransfer {
             startWork(newMode);
             arrived.count = 0;
             anyWasRight = false;
+            anyOfFileWasRight = false;
             if (newMode == MODE_BATCH) {
                 expectHead();
             } else {
                 arrived.open();
-                anyOfFileWasRight = false;
                 expectBlocks();
             }
         }
@@ -620,7 +601,13 @@ public final class BatchTransfer {
         private void answerBlock(Wire wire) {
             int number = wire.get(1);
             if (number == expected) {
-                take(wire);
+                anyWasRight = true;
+                anyOfFileWasRight = true;
+                if (headExpected) {
+                    takeHead(wire);
+                } else {
+                    takeData(wire);
+                }
                 acknowledge(wire);
             } else if (anyOfFileWasRight && number == (expected - 1 & 255)) {
                 acknowledge(wire);
@@ -639,17 +626,6 @@ public final class BatchTransfer {
         private void acknowledge(Wire wire) {
             misses = 0;
             wire.putByte(ACK);
-        }
-
-        private void take(Wire wire) {
-            anyWasRight = true;
-            anyOfFileWasRight = true;
-            if (headExpected) {
-                takeHead(wire);
-            } else {
-                arrived.extendLast(wire.bytes, DATA_AT, wire.dataLength());
-                expected = expected + 1 & 255;
-            }
         }
 
         private void takeHead(Wire wire) {
@@ -684,9 +660,15 @@ public final class BatchTransfer {
             return value;
         }
 
+        private void takeData(Wire wire) {
+            arrived.extendLast(wire.bytes, DATA_AT, wire.dataLength());
+            expected = expected + 1 & 255;
+        }
+
         private void closeFile() {
             if (mode == MODE_BATCH) {
                 arrived.cutLast(sizeTold);
+                anyOfFileWasRight = false;
                 expectHead();
             } else {
                 outcome = DONE;
@@ -696,7 +678,6 @@ public final class BatchTransfer {
         private void expectHead() {
             expected = 0;
             headExpected = true;
-            anyOfFileWasRight = false;
         }
 
         private void expectBlocks() {
