@@ -109,6 +109,7 @@ public final class FilesTest {
     private static void fileRefusesWhatIsNone() {
         refused("a name without 0", 'a', 'b');
         refused("no name", 0, 1, 2);
+        refused("no name, and a 0 later", 0, 'a', 0, 1);
         refused("0 alone", 0);
         refused("a name of 13", Check.tapeOf("abcdefghijklm", 1));
         refused("3001 bytes", Check.tapeOf("a", new int[3001]));

@@ -8,6 +8,7 @@ public final class ReceivedTest {
         filesThatAreNotThere();
         padding();
         wholeBatches();
+        largestFilesFromTheTape();
         linesThatLose();
         anyCallsInAnyOrder();
         Check.finish();
@@ -127,6 +128,29 @@ public final class ReceivedTest {
             Check.arrived("batch file " + f, () -> whole(3, sizes), f, "f", Check.madeBytes(sizes[f], 11));
         }
         Check.due("eight", whole(3, sizes).received(), 8);
+        int[] largest = {3000, 3000, 3000, 3000, 3000, 3000, 3000, 3000};
+        for (int f = 0; f < largest.length; f++) {
+            Check.arrived("largest file " + f, () -> whole(3, largest), f, "f", Check.madeBytes(3000, 11));
+        }
+    }
+
+    private static void largestFilesFromTheTape() {
+        BatchTransfer feeder = new BatchTransfer();
+        int[] bytes = Check.madeBytes(3000, 77);
+        for (int f = 0; f < 7; f++) {
+            feeder.made(3000, f);
+        }
+        Check.tape(feeder, Check.tapeOf("the.last.one", bytes));
+        Check.due("the eighth of 3000 bytes", feeder.file(), 7);
+        feeder.begin(3);
+        for (int i = 0; i < 150 && feeder.step() != Check.NONE; i++) {
+            continue;
+        }
+        Check.states("eight of 3000 bytes", feeder, 1, 1);
+        Check.due("size(7)", feeder.size(7), 3000);
+        for (int i = 0; i < 3000; i += 60) {
+            Check.due("byteAt(7, " + i + ")", feeder.byteAt(7, i), bytes[i]);
+        }
     }
 
     /** Where lines only lose, or damage only blocks, two done sides have the same files. */

@@ -6,6 +6,7 @@ public final class SessionTest {
         Check.due("the test's own CRC", Check.crc(new int[] {'1', '2', '3', '4', '5', '6', '7', '8', '9'}), 0x31C3);
         beginChoosesTheMode();
         beginAnew();
+        beginForgetsTheSessionBefore();
         blocksOnTheLine();
         largeBlocks();
         headsOnTheLine();
@@ -91,6 +92,36 @@ public final class SessionTest {
         Check.steps("the first file alone", x, 1, 6, 1, 6, 4, 6, -1);
         Check.due("received() then", x.received(), 1);
         Check.due("size(0) then", x.size(0), 256);
+    }
+
+    private static void beginForgetsTheSessionBefore() {
+        BatchTransfer x = begun(1, 10);
+        for (int i = 0; i < 10; i++) {
+            Check.due("a miss of the sender", Check.lose(x), 0);
+            Check.due("a miss of the receiver", x.step(), 67);
+        }
+        x.begin(1);
+        for (int i = 0; i < 10; i++) {
+            Check.due("begun anew: a miss of the sender", Check.lose(x), 0);
+            Check.due("begun anew: a miss of the receiver", x.step(), 67);
+        }
+        BatchTransfer y = begun(3, 10);
+        Check.steps("HEAD and block", y, 1, 6, 1, 6);
+        y.begin(3);
+        Check.due("begun anew: not asked yet", Check.lose(y), 0);
+        Check.due("begun anew: nothing was right yet", Check.lose(y), 67);
+        Check.steps("begun anew", y, 1, 6, 1, 6, 4, 6, 1, 6, -1);
+        y.begin(2);
+        Check.due("begun without names", y.nameAt(0, 0), Check.NONE);
+        Check.due("begun without bytes", y.size(0), 0);
+        y.step();
+        y.begin(0);
+        Check.steps("begun with a block on the line: the sender's turn", y, 1, 6, 4, 6, -1);
+        BatchTransfer failed = begun(1, 10);
+        Check.due("failed", Check.damage(failed, 0, 67 ^ 24), Check.NONE);
+        failed.begin(1);
+        Check.states("begun behind a failure", failed, 0, 0);
+        Check.steps("begun behind a failure", failed, 1, 6, 4, 6, -1);
     }
 
     // Promises 9 to 11: blocks of 128 in all modes
