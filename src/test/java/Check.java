@@ -150,7 +150,8 @@ final class Check {
         return framed(3, 0, data);
     }
 
-    private static int[] framed(int mode, int number, int[] data) {
+    /** A block of these data. */
+    static int[] framed(int mode, int number, int[] data) {
         int[] all = new int[data.length + (mode == 0 ? 4 : 5)];
         all[0] = data.length == 1024 ? 2 : 1;
         all[1] = number;

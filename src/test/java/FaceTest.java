@@ -7,7 +7,7 @@ import java.util.HashSet;
 import java.util.Set;
 import java.util.TreeSet;
 
-/** The public face is the document's, and nothing else of the class can be seen. */
+/** The public face is the document's, nothing else of the class can be seen, and it keeps to LANGUAGE.md. */
 public final class FaceTest {
     public static void main(String[] args) {
         Check.due("final", Modifier.isFinal(BatchTransfer.class.getModifiers()), true);
@@ -42,7 +42,31 @@ public final class FaceTest {
         Check.due("the face is the document's", seen.equals(want), true);
         privateNames.retainAll(publicNames);
         Check.due("no private method bears a public one's name", privateNames.isEmpty(), true);
+        rulesOfLanguage(BatchTransfer.class);
+        Check.due("at most twelve classes", BatchTransfer.class.getDeclaredClasses().length <= 11, true);
+        for (Class<?> inside : BatchTransfer.class.getDeclaredClasses()) {
+            Check.due(inside + " is static", Modifier.isStatic(inside.getModifiers()), true);
+            Check.due(inside + " can't be seen", inside.getModifiers() & (Modifier.PUBLIC | Modifier.PROTECTED), 0);
+            rulesOfLanguage(inside);
+        }
         Check.finish();
+    }
+
+    /** What of LANGUAGE.md can be seen in a compiled class: rules 5 and 11. */
+    private static void rulesOfLanguage(Class<?> type) {
+        int fields = 0;
+        for (Field f : type.getDeclaredFields()) {
+            if (Modifier.isStatic(f.getModifiers())) {
+                Check.due(f + " is final", Modifier.isFinal(f.getModifiers()), true);
+            } else {
+                fields++;
+            }
+        }
+        Check.due(type + " has at most twenty fields", fields <= 20, true);
+        for (Method m : type.getDeclaredMethods()) {
+            Check.due(m + " takes at most seven", m.getParameterCount() <= 7, true);
+            Check.due(m + " is not synchronized", Modifier.isSynchronized(m.getModifiers()), false);
+        }
     }
 
     private static String signature(Method m) {

@@ -197,10 +197,11 @@ public final class ReceivedTest {
 
     /** No call throws what it may not, whatever came before, and answers stay in their ranges. */
     private static void anyCallsInAnyOrder() {
-        for (int run = 0; run < 3000; run++) {
+        for (int run = 0; run < 15000; run++) {
             Random random = new Random(run);
             BatchTransfer x = new BatchTransfer();
-            for (int call = 0; call < 500; call++) {
+            // Each turn makes up to six calls, and nothing is promised behind the 512th.
+            for (int turn = 0; turn < 85; turn++) {
                 anyCall(random, x);
             }
         }
