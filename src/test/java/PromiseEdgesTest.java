@@ -465,6 +465,17 @@ public final class PromiseEdgesTest {
             Check.steps("the new one", x, 1, 6, 4, 6, -1);
             Check.states("the new one is over", x, 1, 1);
         }
+        BatchTransfer missed = begun(3, 5);
+        Check.steps("HEAD", missed, 1, 6);
+        for (int round = 0; round < 2; round++) {
+            missed.begin(3);
+            for (int i = 0; i < 10; i++) {
+                Check.due("its misses and its HEAD are forgotten: byte 0", Check.lose(missed), 0);
+                Check.due("the ASK", Check.lose(missed), 67);
+            }
+        }
+        Check.steps("the new one", missed, 1, 6, 1, 6, 4, 6, 1, 6, -1);
+        Check.states("the new one", missed, 1, 1);
     }
 
     // 7: what was received goes

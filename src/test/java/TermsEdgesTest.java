@@ -147,6 +147,18 @@ public final class TermsEdgesTest {
             Check.due("size(0)", x.size(0), mode == 3 ? 5 : 128);
             Check.due("size(1)", x.size(1), mode == 3 ? 6 : Check.NONE);
         }
+        BatchTransfer different = new BatchTransfer();
+        for (int f = 0; f < 8; f++) {
+            different.made(f + 1, 40 * f);
+        }
+        different.begin(3);
+        stepped(different, 2 * 8 * 3 + 3);
+        Check.states("eight different files", different, 1, 1);
+        for (int f = 0; f < 8; f++) {
+            for (int i = 0; i <= f; i++) {
+                Check.due("byteAt(" + f + ", " + i + ")", different.byteAt(f, i), 40 * f + 5 * i & 255);
+            }
+        }
     }
 
     // its NUMBER (8 bits), 255 less that: no file has more than 24 blocks, so none can pass 255
